@@ -24,7 +24,8 @@ public final class AskedTest {
         "part 4 0 3 9 = 9", "end 4 7 = 9", "go 4 2 = 0", "mark 4 = 2", "go 4 5 = 2",
         "ofPane 4 0 = 5", "ofPane 4 1 = 7", "ofPane 4 2 = 9", "ofPane 4 3 = 2", "ofPane 4 4 = 2",
         "ofPane 4 5 = 3", "ofPane 4 6 = 1", "ofPane 4 7 = 0", "ofPane 4 8 = 1", "ofPane 4 9 = 2",
-        "go 4 7 = 5", "ofPane 4 3 = 0", "ofPane 4 6 = 0");
+        "go 4 6 = 5", "ofPane 4 3 = 1", "ofPane 4 6 = 1", "go 4 7 = 6", "ofPane 4 3 = 0",
+        "ofPane 4 6 = 0");
     Script.play("29 ofPane of a reader",
         "part 4 0 3 9 = 9", "end 4 7 = 9", "reader 4 4 = 7", "ofPane 4 0 = 0", "ofPane 4 1 = 7",
         "ofPane 4 2 = 9", "ofPane 4 3 = 7", "ofPane 4 4 = -1", "ofPane 4 5 = -9", "ofPane 4 6 = 1",
@@ -180,5 +181,15 @@ public final class AskedTest {
     Script.play("42 digest", "fill 0 3 3 10 = 10", "reader 3 0 = 6", "part 1 0 2 5 = 5",
         "mark 1 = 0", "knock  = 1", "back 4 = -9", "digest  = " + model.digest(),
         "digest  = " + model.digest());
+    promise42OfTheLastAndTheFirst();
+  }
+
+  private static void promise42OfTheLastAndTheFirst() {
+    BufferModel model = new BufferModel();
+    model.part(5, 3, 6, 4);
+    model.part(0, 3, 2, 9);
+    model.part(4, 3, 5, 9);
+    Script.play("42 digest of pane 5 with pane 0", "part 5 3 6 4 = 4", "part 0 3 2 9 = 9",
+        "part 4 3 5 9 = 9", "sees 5 0 0 = 4", "digest  = " + model.digest());
   }
 }
