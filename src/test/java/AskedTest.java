@@ -142,12 +142,14 @@ public final class AskedTest {
 
   private static void promise39() {
     Script.play("39 house",
-        "put 0 1 = 1", "go 0 16 = 1", "put 0 1 = -9", "get 0 = -9", "get 0 = -9", "back 0 = -9",
-        "back 0 = -9", "back 0 = -9", "reader 1 1 = 16", "put 1 1 = -9", "pack 1 = -9",
-        "reach 1 0 0 = -9", "putAt 1 0 0 = -9", "go 0 17 = -9", "end 0 17 = -9",
-        "part 0 0 17 0 = -9", "pop 4 = -9", "bring 0 16 0 0 = -9", "mark 0 = 16", "mark 1 = 0",
-        "house 0 = 5", "house 1 = 1", "house 2 = 2", "house 3 = 3", "house 4 = 4", "house 5 = 5",
-        "house 6 = 0", "house 7 = 1", "house 8 = 2", "knock  = 1", "house 6 = 1", "house 0 = 5");
+        "put 0 1 = 1", "go 0 16 = 1", "put 0 1 = -9 FULL", "get 0 = -9 EMPTY", "get 0 = -9 EMPTY",
+        "back 0 = -9 NO MARK", "back 0 = -9 NO MARK", "back 0 = -9 NO MARK", "reader 1 1 = 16",
+        "put 1 1 = -9 READER", "pack 1 = -9 READER", "reach 1 0 0 = -9 READER",
+        "putAt 1 0 0 = -9 READER", "go 0 17 = -9 BEYOND", "end 0 17 = -9 BEYOND",
+        "part 0 0 17 0 = -9 BEYOND", "pop 4 = -9 BEYOND", "bring 0 16 0 0 = -9 BEYOND",
+        "mark 0 = 16", "mark 1 = 0", "house 0 = 5", "house 1 = 1", "house 2 = 2", "house 3 = 3",
+        "house 4 = 4", "house 5 = 5", "house 6 = 0", "house 7 = 1", "house 8 = 2", "knock  = 1",
+        "house 6 = 1", "house 0 = 5");
     Script.play("39 house of what is thrown and asked",
         "put 6 0" + NO_PANE, "put 0 -1" + NOT_SO, "at 0 99 = -9", "would 0 3 = -9",
         "house 0 = 0", "house 3 = 0", "house 5 = 0");
@@ -179,7 +181,7 @@ public final class AskedTest {
     model.knock();
     model.back(4);
     Script.play("42 digest", "fill 0 3 3 10 = 10", "reader 3 0 = 6", "part 1 0 2 5 = 5",
-        "mark 1 = 0", "knock  = 1", "back 4 = -9", "digest  = " + model.digest(),
+        "mark 1 = 0", "knock  = 1", "back 4 = -9 NO MARK", "digest  = " + model.digest(),
         "digest  = " + model.digest());
     promise42OfTheLastAndTheFirst();
   }

@@ -67,7 +67,7 @@ public final class MadeTest {
         "ofPane 0 5 = 0", "put 0 1 = 1");
     Script.play("3 fresh at the edges",
         "fresh 0 0 = 0", "whole 0 = ><", "text 0 = ", "total 0 = 0", "isKin 0 0 = 1",
-        "put 0 1 = -9", "get 0 = -9", "pack 0 = 0", "clear 0 = 0", "fresh 0 12 = 12",
+        "put 0 1 = -9 FULL", "get 0 = -9 EMPTY", "pack 0 = 0", "clear 0 = 0", "fresh 0 12 = 12",
         "whole 0 = >0 0 0 0 0 0 0 0 0 0 0 0 <");
     Script.play("3 fresh of what is not there",
         "fresh 0 13" + NOT_SO, "fresh 0 -1" + NOT_SO, "fresh 0 2147483647" + NOT_SO,
@@ -83,9 +83,9 @@ public final class MadeTest {
         "twin 5 4 = 8", "put 5 3 = 1", "at 4 0 = 3", "ofPane 4 0 = 0", "mark 5 = 1",
         "ofPane 4 4 = -1", "end 5 2 = 8", "ofPane 4 1 = 8");
     Script.play("4 twin of a reader, of none, of itself",
-        "reader 1 0 = 16", "twin 2 1 = 16", "ofPane 2 7 = 1", "put 2 1 = -9", "twin 2 0 = 16",
-        "ofPane 2 7 = 0", "go 0 4 = 0", "mark 0 = 4", "go 0 6 = 4", "twin 0 0 = 10",
-        "ofPane 0 4 = 4", "ofPane 0 0 = 6", "house 0 = 7");
+        "reader 1 0 = 16", "twin 2 1 = 16", "ofPane 2 7 = 1", "put 2 1 = -9 READER",
+        "twin 2 0 = 16", "ofPane 2 7 = 0", "go 0 4 = 0", "mark 0 = 4", "go 0 6 = 4",
+        "twin 0 0 = 10", "ofPane 0 4 = 4", "ofPane 0 0 = 6", "house 0 = 7");
     Script.play("4 twin of what is not there",
         "twin 0 6" + NO_PANE, "twin 6 0" + NO_PANE, "twin -1 -1" + NO_PANE, "twin 0 -1" + NO_PANE,
         "twin -2147483648 2147483647" + NO_PANE);
@@ -102,7 +102,7 @@ public final class MadeTest {
         "whole 0 = >4 5 6 7 8 9 10 11 12 <", "ofPane 0 5 = 3", "go 0 2 = 0", "rest 0 0 = 7",
         "ofPane 0 5 = 5", "ofPane 0 4 = -1", "putAt 0 0 60 = 6", "at 1 5 = 60");
     Script.play("5 rest of a reader, of nothing",
-        "reader 1 0 = 16", "go 1 9 = 0", "rest 2 1 = 7", "ofPane 2 7 = 1", "put 2 1 = -9",
+        "reader 1 0 = 16", "go 1 9 = 0", "rest 2 1 = 7", "ofPane 2 7 = 1", "put 2 1 = -9 READER",
         "rest 2 0 = 16", "ofPane 2 7 = 0", "go 0 16 = 0", "rest 3 0 = 0", "whole 3 = ><",
         "ofPane 3 5 = 16", "rest 3 3 = 0", "ofPane 3 5 = 16", "isKin 3 0 = 1");
     Script.play("5 rest of what is not there",
@@ -121,13 +121,15 @@ public final class MadeTest {
         "end 0 10 = 16", "part 1 0 0 10 = 10", "part 1 0 10 0 = 0", "ofPane 1 5 = 10",
         "whole 1 = ><", "part 1 0 9 1 = 1", "part 1 0 0 0 = 0", "ofPane 1 5 = 0");
     Script.play("6 part of a reader",
-        "reader 1 0 = 16", "part 2 1 4 4 = 4", "ofPane 2 7 = 1", "putAt 2 0 1 = -9",
+        "reader 1 0 = 16", "part 2 1 4 4 = 4", "ofPane 2 7 = 1", "putAt 2 0 1 = -9 READER",
         "part 2 0 4 4 = 4", "ofPane 2 7 = 0");
     Script.play("6 part that is refused",
-        "end 0 10 = 16", "part 1 0 11 0 = -9", "part 1 0 -1 0 = -9", "part 1 0 0 11 = -9",
-        "part 1 0 0 -1 = -9", "part 1 0 4 7 = -9", "part 1 0 10 1 = -9",
-        "part 1 0 2147483647 1 = -9", "part 1 0 1 2147483647 = -9", "part 1 0 -2147483648 1 = -9",
-        "part 1 0 1 -2147483648 = -9", "house 5 = 10", "house 0 = 1", "whole 1 = " + LONG_NEW);
+        "end 0 10 = 16", "part 1 0 11 0 = -9 BEYOND", "part 1 0 -1 0 = -9 BEYOND",
+        "part 1 0 0 11 = -9 BEYOND", "part 1 0 0 -1 = -9 BEYOND", "part 1 0 4 7 = -9 BEYOND",
+        "part 1 0 10 1 = -9 BEYOND", "part 1 0 2147483647 1 = -9 BEYOND",
+        "part 1 0 1 2147483647 = -9 BEYOND", "part 1 0 -2147483648 1 = -9 BEYOND",
+        "part 1 0 1 -2147483648 = -9 BEYOND", "house 5 = 10", "house 0 = 1",
+        "whole 1 = " + LONG_NEW);
     Script.play("6 part of what is not there",
         "part 0 6 99 0" + NO_PANE, "part 6 0 0 0" + NO_PANE, "part -1 0 0 -1" + NO_PANE,
         "part 0 -1 0 0" + NO_PANE, "house 5 = 0");
@@ -141,10 +143,12 @@ public final class MadeTest {
         "peek 5 = 8", "house 7 = 1", "house 8 = 2");
     Script.play("7 reader of itself, of a reader",
         "go 0 4 = 0", "mark 0 = 4", "reader 0 0 = 12", "ofPane 0 7 = 1", "ofPane 0 4 = 4",
-        "put 0 1 = -9", "reader 1 0 = 12", "ofPane 1 7 = 1", "reader 0 0 = 12", "house 7 = 2");
+        "put 0 1 = -9 READER", "reader 1 0 = 12", "ofPane 1 7 = 1", "reader 0 0 = 12",
+        "house 7 = 2");
     Script.play("7 reader writes nothing",
-        "reader 0 0 = 16", "put 0 1 = -9", "putAt 0 0 1 = -9", "bring 0 0 1 0 = -9",
-        "fill 0 1 1 1 = 0", "pack 0 = -9", "pour 1 0 1 = 0", "reach 0 0 1 = -9", "house 4 = 7");
+        "reader 0 0 = 16", "put 0 1 = -9 READER", "putAt 0 0 1 = -9 READER",
+        "bring 0 0 1 0 = -9 READER", "fill 0 1 1 1 = 0 READER", "pack 0 = -9 READER",
+        "pour 1 0 1 = 0 READER", "reach 0 0 1 = -9 READER", "house 4 = 7");
     Script.play("7 reader of what is not there",
         "reader 0 6" + NO_PANE, "reader 6 0" + NO_PANE, "reader -1 0" + NO_PANE,
         "reader 0 -1" + NO_PANE);

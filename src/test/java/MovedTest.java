@@ -24,8 +24,8 @@ public final class MovedTest {
         "go 4 5 = 0", "mark 4 = 5", "go 4 7 = 5", "ofPane 4 4 = 5", "go 4 5 = 7",
         "ofPane 4 4 = 5", "go 4 4 = 5", "ofPane 4 4 = -1");
     Script.play("9 go refused",
-        "end 0 9 = 16", "mark 0 = 0", "go 0 10 = -9", "go 0 -1 = -9", "go 0 2147483647 = -9",
-        "go 0 -2147483648 = -9", "go 0 9 = 0", "house 5 = 4");
+        "end 0 9 = 16", "mark 0 = 0", "go 0 10 = -9 BEYOND", "go 0 -1 = -9 BEYOND",
+        "go 0 2147483647 = -9 BEYOND", "go 0 -2147483648 = -9 BEYOND", "go 0 9 = 0", "house 5 = 4");
     Script.play("9 go of a reader", "reader 0 0 = 16", "go 0 3 = 0", "ofPane 0 0 = 3");
     Script.play("9 go of what is not there", "go 6 0" + NO_PANE, "go -1 99" + NO_PANE);
   }
@@ -37,8 +37,9 @@ public final class MovedTest {
         "go 0 5 = 0", "mark 0 = 5", "move 0 3 = 8", "move 0 -3 = 5", "ofPane 0 4 = 5",
         "move 0 -1 = 4", "ofPane 0 4 = -1");
     Script.play("10 move refused",
-        "end 0 9 = 16", "go 0 4 = 0", "mark 0 = 4", "move 0 6 = -9", "move 0 -5 = -9",
-        "move 0 20 = -9", "move 0 -20 = -9", "house 5 = 4", "move 0 5 = 9", "move 0 -9 = 0");
+        "end 0 9 = 16", "go 0 4 = 0", "mark 0 = 4", "move 0 6 = -9 BEYOND", "move 0 -5 = -9 BEYOND",
+        "move 0 20 = -9 BEYOND", "move 0 -20 = -9 BEYOND", "house 5 = 4", "move 0 5 = 9",
+        "move 0 -9 = 0");
     Script.play("10 move by what it can't be",
         "move 0 21" + NOT_SO, "move 0 -21" + NOT_SO, "move 0 2147483647" + NOT_SO,
         "move 0 -2147483648" + NOT_SO, "move 6 21" + NO_PANE, "move -1 0" + NO_PANE,
@@ -57,8 +58,9 @@ public final class MovedTest {
         "go 0 6 = 0", "mark 0 = 6", "go 0 9 = 6", "end 0 7 = 16", "ofPane 0 4 = 6",
         "end 0 6 = 7", "ofPane 0 4 = 6", "end 0 5 = 6", "ofPane 0 4 = -1", "ofPane 0 0 = 5");
     Script.play("11 end refused",
-        "go 4 3 = 0", "mark 4 = 3", "end 4 9 = -9", "end 4 -1 = -9", "end 4 2147483647 = -9",
-        "end 4 -2147483648 = -9", "end 4 8 = 8", "house 5 = 4");
+        "go 4 3 = 0", "mark 4 = 3", "end 4 9 = -9 BEYOND", "end 4 -1 = -9 BEYOND",
+        "end 4 2147483647 = -9 BEYOND", "end 4 -2147483648 = -9 BEYOND", "end 4 8 = 8",
+        "house 5 = 4");
     Script.play("11 end of what is not there", "end 6 0" + NO_PANE, "end -1 99" + NO_PANE);
   }
 
@@ -71,8 +73,8 @@ public final class MovedTest {
         "ofPane 0 4 = 9", "stretch 0 -1 = 9", "ofPane 0 4 = 9", "stretch 0 -1 = 8",
         "ofPane 0 4 = -1", "ofPane 0 0 = 8", "stretch 0 3 = 11", "ofPane 0 0 = 8");
     Script.play("12 stretch refused",
-        "end 0 10 = 16", "stretch 0 7 = -9", "stretch 0 -11 = -9", "stretch 0 20 = -9",
-        "stretch 0 -20 = -9", "house 5 = 4", "ofPane 0 1 = 10");
+        "end 0 10 = 16", "stretch 0 7 = -9 BEYOND", "stretch 0 -11 = -9 BEYOND",
+        "stretch 0 20 = -9 BEYOND", "stretch 0 -20 = -9 BEYOND", "house 5 = 4", "ofPane 0 1 = 10");
     Script.play("12 stretch by what it can't be",
         "stretch 0 21" + NOT_SO, "stretch 0 -21" + NOT_SO, "stretch 0 2147483647" + NOT_SO,
         "stretch 0 -2147483648" + NOT_SO, "stretch 6 21" + NO_PANE, "stretch -1 0" + NO_PANE);
@@ -96,8 +98,8 @@ public final class MovedTest {
         "go 0 3 = 0", "mark 0 = 3", "go 0 9 = 3", "back 0 = 6", "ofPane 0 0 = 3",
         "ofPane 0 4 = 3", "back 0 = 0", "go 0 16 = 3", "back 0 = 13", "house 0 = 7");
     Script.play("14 back without a mark",
-        "go 0 3 = 0", "back 0 = -9", "house 3 = 1", "mark 0 = 3", "go 0 2 = 3", "back 0 = -9",
-        "house 3 = 2", "back 1 = -9", "ofPane 0 0 = 2");
+        "go 0 3 = 0", "back 0 = -9 NO MARK", "house 3 = 1", "mark 0 = 3", "go 0 2 = 3",
+        "back 0 = -9 NO MARK", "house 3 = 2", "back 1 = -9 NO MARK", "ofPane 0 0 = 2");
     Script.play("14 back to the mark of a twin",
         "mark 0 = 0", "go 0 4 = 0", "twin 4 0 = 12", "back 4 = 4", "ofPane 0 0 = 4");
     Script.play("14 back of what is not there", "back 6" + NO_PANE, "back -1" + NO_PANE);
@@ -106,7 +108,7 @@ public final class MovedTest {
   private static void promise15() {
     Script.play("15 clear",
         "fill 4 1 1 5 = 5", "mark 4 = 5", "end 4 6 = 8", "clear 4 = 8",
-        "whole 4 = >1 2 3 4 5 0 0 0 <", "back 4 = -9", "clear 4 = 8");
+        "whole 4 = >1 2 3 4 5 0 0 0 <", "back 4 = -9 NO MARK", "clear 4 = 8");
     Script.play("15 clear of a part and a reader",
         "part 4 0 3 5 = 5", "end 4 2 = 5", "go 4 1 = 0", "mark 4 = 1", "clear 4 = 5",
         "ofPane 4 4 = -1", "ofPane 4 5 = 3", "reader 4 4 = 5", "end 4 1 = 5", "clear 4 = 5",
@@ -117,8 +119,8 @@ public final class MovedTest {
   private static void promise16() {
     Script.play("16 flip",
         "fill 4 1 1 5 = 5", "mark 4 = 5", "flip 4 = 5", "whole 4 = >1 2 3 4 5 <0 0 0 ",
-        "back 4 = -9", "go 4 2 = 0", "mark 4 = 2", "flip 4 = 2", "ofPane 4 4 = -1", "flip 4 = 0",
-        "whole 4 = ><1 2 3 4 5 0 0 0 ", "ofPane 4 2 = 8");
+        "back 4 = -9 NO MARK", "go 4 2 = 0", "mark 4 = 2", "flip 4 = 2", "ofPane 4 4 = -1",
+        "flip 4 = 0", "whole 4 = ><1 2 3 4 5 0 0 0 ", "ofPane 4 2 = 8");
     Script.play("16 flip at the end", "go 4 8 = 0", "flip 4 = 8", "ofPane 4 1 = 8");
     Script.play("16 flip of what is not there", "flip 6" + NO_PANE, "flip -1" + NO_PANE);
   }
@@ -126,7 +128,7 @@ public final class MovedTest {
   private static void promise17() {
     Script.play("17 rewind",
         "fill 4 1 1 5 = 5", "mark 4 = 5", "end 4 6 = 8", "rewind 4 = 6",
-        "whole 4 = >1 2 3 4 5 0 <0 0 ", "back 4 = -9", "rewind 4 = 6");
+        "whole 4 = >1 2 3 4 5 0 <0 0 ", "back 4 = -9 NO MARK", "rewind 4 = 6");
     Script.play("17 rewind with a mark at 0", "mark 4 = 0", "rewind 4 = 8", "ofPane 4 4 = -1");
     Script.play("17 rewind of what is not there", "rewind 6" + NO_PANE, "rewind -1" + NO_PANE);
   }

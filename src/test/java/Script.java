@@ -1,16 +1,23 @@
+import java.util.Arrays;
+import java.util.List;
 import java.util.Set;
 
 /**
- * Plays lines of the form "name number .. = answer" on a new object. Beside the answers it looks,
- * call by call, at what the document says of all calls: what throws or asks changes nothing, what
- * is REFUSED is counted once and leaves rows and panes alone, all else of the first four sections
- * is one ACT. Each line is looked at on an object of its own that the lines ahead have led there,
- * so that the questions do not use up the calls that an object is made for.
+ * Plays lines of the form "name number .. = answer" on a new object, and "name number .. = answer
+ * KIND" where that KIND is due to be counted once by the call. Beside the answers it looks, call by
+ * call, at what the document says of all calls: what throws, asks or is REFUSED leaves rows and
+ * panes as they are; all else of the first four sections is one ACT; no other count moves. Each
+ * line is looked at on an object of its own that the lines ahead have led there, so that the
+ * questions do not use up the calls that an object is made for.
  */
 final class Script {
   private static final int CALLS_MOST = 512;
+  private static final int PANES = 6;
   private static final Set<String> NO_ACTS = Set.of("ofPane", "at", "peek", "total", "text",
       "whole", "row", "isKin", "sees", "would", "house", "knock", "isSound", "digest");
+  /** At the place of its number in house(). */
+  private static final List<String> KINDS =
+      List.of("no kind", "FULL", "EMPTY", "NO MARK", "READER", "BEYOND");
 
   private static int wrong = 0;
 
@@ -18,21 +25,60 @@ final class Script {
   private final Manypanes x = new Manypanes();
   private int calls = 0;
 
+  private record Line(String told, String name, int[] numbers, String due, int kind) {
+    static Line of(String told) {
+      int kind = 0;
+      for (int i = 1; i < KINDS.size(); i++) {
+        kind = told.endsWith(" " + KINDS.get(i)) ? i : kind;
+      }
+      int equal = told.indexOf(" = ");
+      int end = kind == 0 ? told.length() : told.length() - KINDS.get(kind).length() - 1;
+      String[] words = told.substring(0, equal).split(" ");
+      int[] numbers = new int[words.length - 1];
+      for (int i = 0; i < numbers.length; i++) {
+        numbers[i] = Integer.parseInt(words[i + 1]);
+      }
+      return new Line(told, words[0], numbers, told.substring(equal + 3, end), kind);
+    }
+
+    boolean asks() {
+      return NO_ACTS.contains(name);
+    }
+
+    boolean refused() {
+      return !asks() && due.equals("-9");
+    }
+
+    boolean thrown() {
+      return due.startsWith("throws");
+    }
+  }
+
   private Script(String title) {
     this.title = title;
   }
 
-  static void play(String title, String... lines) {
+  static void play(String title, String... told) {
+    Line[] lines = Arrays.stream(told).map(Line::of).toArray(Line[]::new);
     Script plain = new Script(title);
-    for (String line : lines) {
+    for (Line line : lines) {
       plain.compare(line);
     }
     for (int i = 0; i < lines.length; i++) {
       Script watched = new Script(title + " (watched)");
       for (int j = 0; j < i; j++) {
-        watched.askLine(lines[j]);
+        watched.ask(lines[j].name, lines[j].numbers);
       }
       watched.watch(lines[i]);
+    }
+  }
+
+  /** Many plays that begin with the same lines, each with one line more. */
+  static void playEach(String title, String[] ahead, String... last) {
+    for (String line : last) {
+      String[] told = Arrays.copyOf(ahead, ahead.length + 1);
+      told[ahead.length] = line;
+      play(title, told);
     }
   }
 
@@ -48,66 +94,57 @@ final class Script {
     System.out.println(what);
   }
 
-  private void watch(String line) {
-    String name = line.substring(0, line.indexOf(' '));
-    String panes = panes();
-    int acts = number("house", 0);
-    int refusals = refusals();
-    String digest = ask("digest");
-    String answer = compare(line);
-    boolean asks = NO_ACTS.contains(name);
-    if (answer.startsWith("throws") || asks && !name.equals("knock")) {
-      same(line, "the digest", digest, ask("digest"));
-    } else if (name.equals("knock")) {
-      same(line, "the panes", panes, panes());
-      same(line, "the acts", acts, number("house", 0));
-    } else if (answer.equals("-9")) {
-      same(line, "the panes", panes, panes());
-      same(line, "the acts", acts, number("house", 0));
-      same(line, "the refusals", refusals + 1, refusals());
-    } else {
-      same(line, "the acts", acts + 1, number("house", 0));
+  private void watch(Line line) {
+    String state = state();
+    int[] due = counts();
+    compare(line);
+    if (line.refused() && line.kind == 0) {
+      fault(title + ": " + line.told + ": no KIND is told");
     }
+    if (line.refused() || line.thrown() || line.asks()) {
+      same(line, "the state", state, state());
+    } else {
+      due[0]++;
+    }
+    if (line.kind != 0) {
+      due[line.kind]++;
+    }
+    if (line.name.equals("knock")) {
+      due[6]++;
+    }
+    same(line, "house() of 0 to 6", Arrays.toString(due), Arrays.toString(counts()));
     same(line, "isSound", "true", ask("isSound"));
     if (calls > CALLS_MOST) {
       fault(title + ": more calls than an object is made for");
     }
   }
 
-  private String compare(String line) {
-    String answer = askLine(line);
-    same(line, "the answer", line.substring(line.indexOf(" = ") + 3), answer);
-    return answer;
+  private void compare(Line line) {
+    same(line, "the answer", line.due, ask(line.name, line.numbers));
   }
 
-  private String askLine(String line) {
-    String[] words = line.substring(0, line.indexOf(" = ")).split(" ");
-    int[] numbers = new int[words.length - 1];
-    for (int i = 0; i < numbers.length; i++) {
-      numbers[i] = Integer.parseInt(words[i + 1]);
-    }
-    return ask(words[0], numbers);
-  }
-
-  private String panes() {
+  /** All that can be asked of rows and panes, and is not told by these answers already. */
+  private String state() {
     StringBuilder all = new StringBuilder(ask("row"));
-    for (int pane = 0; pane < 6; pane++) {
-      all.append('/').append(ask("whole", pane)).append(ask("ofPane", pane, 5));
-      all.append(ask("ofPane", pane, 7));
+    for (int pane = 0; pane < PANES; pane++) {
+      all.append("; ").append(ask("whole", pane));
+      for (int what = 0; what <= 9; what++) {
+        all.append(' ').append(ask("ofPane", pane, what));
+      }
+      for (int other = 0; other < PANES; other++) {
+        all.append(' ').append(ask("isKin", pane, other));
+        all.append(' ').append(ask("sees", pane, 0, other));
+      }
     }
     return all.toString();
   }
 
-  private int refusals() {
-    int sum = 0;
-    for (int kind = 1; kind <= 5; kind++) {
-      sum += number("house", kind);
+  private int[] counts() {
+    int[] counts = new int[7];
+    for (int what = 0; what < counts.length; what++) {
+      counts[what] = Integer.parseInt(ask("house", what));
     }
-    return sum;
-  }
-
-  private int number(String name, int argument) {
-    return Integer.parseInt(ask(name, argument));
+    return counts;
   }
 
   private String ask(String name, int... numbers) {
@@ -115,9 +152,9 @@ final class Script {
     return Calls.call(x, name, numbers);
   }
 
-  private void same(String line, String what, Object due, Object got) {
+  private void same(Line line, String what, Object due, Object got) {
     if (!due.equals(got)) {
-      fault(title + ": " + line + ": " + what + " is '" + got + "', due is '" + due + "'");
+      fault(title + ": " + line.told + ": " + what + " is '" + got + "', due is '" + due + "'");
     }
   }
 }
