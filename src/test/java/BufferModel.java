@@ -252,9 +252,10 @@ final class BufferModel {
   String whole(int pane) {
     IntBuffer b = of(pane);
     IntBuffer open = open(b);
+    int mark = markOf(b);
     StringBuilder told = new StringBuilder();
     for (int i = 0; i <= b.capacity(); i++) {
-      told.append(markOf(b) == i ? "|" : "").append(b.position() == i ? ">" : "");
+      told.append(mark == i ? "|" : "").append(b.position() == i ? ">" : "");
       told.append(b.limit() == i ? "<" : "");
       if (i < b.capacity()) {
         told.append(open.get(i)).append(' ');

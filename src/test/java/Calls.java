@@ -10,6 +10,16 @@ final class Calls {
 
   private Calls() {}
 
+  /** The call is written as "name number ..". */
+  static String tell(Object on, String call) {
+    String[] words = call.trim().split(" ");
+    int[] numbers = new int[words.length - 1];
+    for (int i = 0; i < numbers.length; i++) {
+      numbers[i] = Integer.parseInt(words[i + 1]);
+    }
+    return call(on, words[0], numbers);
+  }
+
   static String call(Object on, String name, int... numbers) {
     try {
       Object[] arguments = new Object[numbers.length];

@@ -54,6 +54,11 @@ public final class FaceTest {
     for (Method method : Manypanes.class.getDeclaredMethods()) {
       if (Modifier.isPublic(method.getModifiers())) {
         names.add(method.getName());
+        for (Class<?> type : method.getParameterTypes()) {
+          if (type != int.class) {
+            Script.fault("a number that is no int: " + told(method));
+          }
+        }
         if (!due.remove(told(method))) {
           Script.fault("not of the face: " + told(method));
         }

@@ -11,6 +11,13 @@ import java.util.Set;
  * questions do not use up the calls that an object is made for.
  */
 final class Script {
+  /**
+   * PANE 4 shows the places 4 to 9 of the LONG ROW, whose VALUES are 1 to 16; its MARK is 1, its
+   * POSITION 2, its LIMIT 5: "5 |6 >7 8 9 <10 ".
+   */
+  static final String[] PART = {"fill 0 1 1 16 = 16", "clear 0 = 16", "part 4 0 4 6 = 6",
+      "end 4 5 = 6", "go 4 1 = 0", "mark 4 = 1", "go 4 2 = 1"};
+
   private static final int CALLS_MOST = 512;
   private static final int PANES = 6;
   private static final Set<String> NO_ACTS = Set.of("ofPane", "at", "peek", "total", "text",
@@ -25,7 +32,7 @@ final class Script {
   private final Manypanes x = new Manypanes();
   private int calls = 0;
 
-  private record Line(String told, String name, int[] numbers, String due, int kind) {
+  private record Line(String told, String call, String due, int kind) {
     static Line of(String told) {
       int kind = 0;
       for (int i = 1; i < KINDS.size(); i++) {
@@ -33,16 +40,15 @@ final class Script {
       }
       int equal = told.indexOf(" = ");
       int end = kind == 0 ? told.length() : told.length() - KINDS.get(kind).length() - 1;
-      String[] words = told.substring(0, equal).split(" ");
-      int[] numbers = new int[words.length - 1];
-      for (int i = 0; i < numbers.length; i++) {
-        numbers[i] = Integer.parseInt(words[i + 1]);
-      }
-      return new Line(told, words[0], numbers, told.substring(equal + 3, end), kind);
+      return new Line(told, told.substring(0, equal), told.substring(equal + 3, end), kind);
+    }
+
+    String name() {
+      return call.substring(0, (call + " ").indexOf(' '));
     }
 
     boolean asks() {
-      return NO_ACTS.contains(name);
+      return NO_ACTS.contains(name());
     }
 
     boolean refused() {
@@ -67,18 +73,22 @@ final class Script {
     for (int i = 0; i < lines.length; i++) {
       Script watched = new Script(title + " (watched)");
       for (int j = 0; j < i; j++) {
-        watched.ask(lines[j].name, lines[j].numbers);
+        watched.askLine(lines[j]);
       }
       watched.watch(lines[i]);
     }
   }
 
+  static void playBehind(String title, String[] ahead, String... told) {
+    String[] all = Arrays.copyOf(ahead, ahead.length + told.length);
+    System.arraycopy(told, 0, all, ahead.length, told.length);
+    play(title, all);
+  }
+
   /** Many plays that begin with the same lines, each with one line more. */
   static void playEach(String title, String[] ahead, String... last) {
     for (String line : last) {
-      String[] told = Arrays.copyOf(ahead, ahead.length + 1);
-      told[ahead.length] = line;
-      play(title, told);
+      playBehind(title, ahead, line);
     }
   }
 
@@ -109,7 +119,7 @@ final class Script {
     if (line.kind != 0) {
       due[line.kind]++;
     }
-    if (line.name.equals("knock")) {
+    if (line.name().equals("knock")) {
       due[6]++;
     }
     same(line, "house() of 0 to 6", Arrays.toString(due), Arrays.toString(counts()));
@@ -120,7 +130,12 @@ final class Script {
   }
 
   private void compare(Line line) {
-    same(line, "the answer", line.due, ask(line.name, line.numbers));
+    same(line, "the answer", line.due, askLine(line));
+  }
+
+  private String askLine(Line line) {
+    calls++;
+    return Calls.tell(x, line.call);
   }
 
   /** All that can be asked of rows and panes, and is not told by these answers already. */
